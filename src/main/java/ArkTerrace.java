@@ -608,9 +608,15 @@ public final class ArkTerrace {
     }
 
     private static boolean losesNoneOf(Terrace then, int h, int n) {
-        int goneBefore = then.gone;
-        then.passDays(n);
-        return (then.gone & ~goneBefore & then.thingsOf(h)) == 0;
+        int toKeep = then.thingsOf(h) & ~then.gone;
+        for (int d = 0; d < n; d++) {
+            then.passDay();
+            // What is lost stays lost, so the days behind it need not be run.
+            if ((then.gone & toKeep) != 0) {
+                return false;
+            }
+        }
+        return true;
     }
 
     private int bestOrSorrow(int best, int least, int what) {
@@ -887,7 +893,11 @@ public final class ArkTerrace {
         }
 
         int filledOf(int h) {
-            return fillOfSet(thingsOf(h) & stowed);
+            int sum = 0;
+            for (int i = 0; i < things; i++) {
+                sum += homeOf[i] == h && isIn(i) ? fillOf(i) : 0;
+            }
+            return sum;
         }
 
         int putIn(int i) {
