@@ -98,6 +98,8 @@ public final class PromisesTest {
     faulty("cat 1;", 0, 2);
     faulty("houses 1 1 1;", 0, 2);
     faulty("hous 1 1 1;", 0, 2);
+    faulty("xind 1;", 0, 2);
+    faulty("winx 1;", 0, 2);
     faulty("house 1 1 1;;", 12, 2);
     faulty("house 1 1 1;7", 12, 2);
     faulty("house 1 1 1 1;", 12, 2);
@@ -168,6 +170,30 @@ public final class PromisesTest {
     due(4, "back(0)", x.back(0), STATE);
     due(4, "sheets stay", x.count(3), 5);
     due(42, "torn() stays", x.torn(), 1);
+  }
+
+  private static void oneTextBehindAnother() {
+    ArkTerrace x = told("house 1 9 0;house 2 8 0;house 3 7 0;plain 0 1 9;plain 1 1 8;plain 2 1 7;level 9;wind 7;rise 0 8;");
+    x.stow(0);
+    x.days(1);
+    feedAll(x, "house 9 4 0;plain 0 1 5;wind 5;rise 0 6;");
+    due(4, "text()", x.text(), 4);
+    due(4, "level", x.rule(3), 0);
+    due(4, "wind", x.rule(5), 5);
+    due(4, "rise(0)", x.rise(0), 6);
+    due(7, "house(0, 5)", x.house(0, 5), 1);
+    due(7, "house(1, 0)", x.house(1, 0), BAD);
+    due(8, "thing(1, 0)", x.thing(1, 0), BAD);
+    due(43, "count(4)", x.count(4), 4);
+    due(43, "count(5)", x.count(5), 5);
+    due(21, "pack(0, 0)", x.pack(0, 0), 1);
+    feedAll(x, "level 3;house 9 4 0;");
+    due(4, "text()", x.text(), 2);
+    due(4, "level", x.rule(3), 3);
+    feedAll(x, "level 2;");
+    due(4, "text()", x.text(), 1);
+    due(4, "level", x.rule(3), 2);
+    due(4, "houses", x.rule(0), 0);
   }
 
   private static void whatThereIs() {
@@ -563,11 +589,16 @@ public final class PromisesTest {
     x.days(1);
     due(25, "sorrow", x.rule(4), 8);
     due(25, "swap(3, 0): 3 is lost", x.swap(3, 0), NONE);
-    x = told("house 0 9 3;house 20 9 0;plain 0 9 9;plain 1 1 1;plain 0 1 9;rise 0 8;");
+    x = told("house 0 9 3;house 9 9 0;plain 0 9 9;plain 1 1 7;plain 0 1 9;rise 0 8;rise 1 8;rise 2 8;rise 3 0;");
     x.stow(0);
     x.days(1);
     due(25, "sorrow", x.rule(4), 18);
     due(8, "both are lost", x.rule(8), 5);
+    due(17, "runs(2, 0): 1 will be lost", x.runs(2, 0), 7);
+    due(25, "swap(2, 0): it would be saved by a lost one, which is none", x.swap(2, 0), NONE);
+    x = told("house 9 9 0;house 0 9 3;plain 0 1 7;plain 1 9 9;rise 0 8;rise 1 8;rise 2 8;rise 3 0;");
+    x.days(1);
+    due(25, "swap(2, 0): likewise, the lost one behind", x.swap(2, 0), NONE);
     x = told("house 0 9 3;house 20 9 0;plain 0 6 9;plain 1 1 1;plain 0 1 9;rise 0 8;");
     x.stow(0);
     x.days(1);
@@ -593,6 +624,9 @@ public final class PromisesTest {
     due(26, "in as it was", x.rule(7), 9);
     x.days(1);
     due(26, "save(1, 0) afloat", x.save(1, 0), NONE);
+    x = told("house 0 4 0;plain 0 4 9;plain 0 4 9;rise 0 8;");
+    due(26, "save(1, 0): the first", x.save(1, 0), 0);
+    due(26, "save(1, 1)", x.save(1, 1), 9);
     x = told("house 0 4 1;plain 0 4 9;plain 0 4 0;rise 0 8;");
     due(26, "save(1, 0): it is lost all the same", x.save(1, 0), NONE);
   }
@@ -638,6 +672,10 @@ public final class PromisesTest {
     due(28, "luck(10, 0, 0, 0)", x.luck(10, 0, 0, 0), 1);
     due(29, "mean(3, 1, 0)", x.mean(3, 1, 0), 9);
     due(29, "mean(3, 1, 1)", x.mean(3, 1, 1), 5);
+    due(29, "mean(1, 1, 0)", x.mean(1, 1, 0), 3);
+    due(29, "mean(1, 1, 1)", x.mean(1, 1, 1), 5);
+    due(29, "mean(5, 0, 0)", x.mean(5, 0, 0), 0);
+    due(29, "mean(5, 0, 1)", x.mean(5, 0, 1), 1);
     due(29, "mean(3, 2, 0)", x.mean(3, 2, 0), 153);
     due(29, "mean(3, 2, 1)", x.mean(3, 2, 1), 50);
     due(29, "mean(10, 8, 0)", x.mean(10, 8, 0), 6);
@@ -654,6 +692,11 @@ public final class PromisesTest {
     x = told("house 5 9 0;plain 0 1 6;rise 0 8;");
     due(28, "luck(4, 0, 1, 0): 8 and 2 are 10, whatever the bounds", x.luck(4, 0, 1, 0), 3);
     due(28, "luck(4, 0, 1, 1)", x.luck(4, 0, 1, 1), 5);
+    due(29, "mean(4, 1, 0): a storm alone", x.mean(4, 1, 0), 12);
+    due(29, "mean(4, 1, 1)", x.mean(4, 1, 1), 5);
+    x.build(0, 0, 3);
+    due(29, "mean(4, 1, 0): a calm day, too", x.mean(4, 1, 0), 6);
+    due(29, "mean(0, 1, 0)", x.mean(0, 1, 0), 6);
     x = told("house 3 9 0;plain 0 1 6;rise 0 2;rise 1 4;rise 2 4;");
     due(28, "luck(5, 0, 3, 0): the level is 0 at least by each day", x.luck(5, 0, 3, 0), 3);
     due(28, "luck(5, 0, 3, 1)", x.luck(5, 0, 3, 1), 4);
@@ -763,6 +806,11 @@ public final class PromisesTest {
     // The rooms 22 to 30 are left; behind 7 days 22 to 24 are told from the rest, behind 8 days 22 to 27.
     due(35, "ask(0, 0)", x.ask(0, 0), 7);
     due(35, "ask(0, 1)", x.ask(0, 1), 6);
+    x = told("house 3 10 1;plain 0 4 2;rise 5 8;rise 6 0;");
+    x.stow(0);
+    // It is afloat on the days 6, 13, 20 alone: 5, 6, 7 of 31 are told from the rest.
+    due(35, "ask(0, 0) behind the last day", x.ask(0, 0), 20);
+    due(35, "ask(0, 1) behind the last day", x.ask(0, 1), 24);
     x = told("house 0 10 1;plain 0 4 2;plain 0 6 3;rise 0 8;");
     x.stow(0);
     x.stow(1);
@@ -788,6 +836,10 @@ public final class PromisesTest {
     due(36, "nothing is changed", x.rule(2) + x.rule(3) + x.rule(4), 0);
     due(36, "wind as it was", x.rule(5), 8);
     due(36, "rise as it was", x.rise(0), 8);
+    x.days(1);
+    due(36, "sorrow", x.rule(4), 5);
+    due(36, "drift(1, 1, 0): by how much it is more", x.drift(1, 1, 0), 0);
+    x = told("house 0 9 0;plain 0 1 5;rise 0 8;wind 8;");
     for (int seed = -3; seed < 40; seed++) {
       int s = seed;
       int level = 0;
@@ -980,6 +1032,7 @@ public final class PromisesTest {
     feedAndEnd();
     texts();
     aTextTellsAll();
+    oneTextBehindAnother();
     whatThereIs();
     fillsAndCosts();
     whatIsChanged();
