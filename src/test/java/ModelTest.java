@@ -678,7 +678,7 @@ public final class ModelTest {
     int houses = upTo(20) == 0 ? upTo(5) : 1 + upTo(2);
     for (int k = 0; k < houses; k++) s.append("house " + upTo(9) + " " + upTo(40) + " " + upTo(upTo(3)) + ";");
     Set<String> told = new HashSet<>();
-    int lines = upTo(10);
+    int lines = upTo(13);
     for (int k = 0; k < lines; k++) {
       String line = line(houses);
       boolean again = !told.add(line.startsWith("rise") ? line.substring(0, 6) : line.substring(0, 4))
@@ -741,6 +741,10 @@ public final class ModelTest {
         v = upTo(4) == 0 ? 256 * upTo(300) + arg(0, 7) : arg(0, 7);
         same("lay", new int[] {k, n, v}, x.lay(k, n, v), m.lay(k, n, v)); break;
       case 18: k = arg(0, 3); v = arg(0, 2); int f = arg(0, 4); n = arg(0, upTo(3) == 0 ? 40 : 3);
+        if (upTo(1) == 0 && Model.in(k, 0, 3) && m.sheets[k] == null && Model.in(v, 0, 2)) {
+          same("sheet", new int[] {k, v, 8}, x.sheet(k, v, 8), m.sheet(k, v, 8));
+          for (int c = 0; c < 8; c++) same("lay", new int[] {k, c, 7 - c}, x.lay(k, c, 7 - c), m.lay(k, c, 7 - c));
+        }
         same("read", new int[] {k, v, f, n}, x.read(k, v, f, n), m.read(k, v, f, n));
         same("torn", new int[0], x.torn(), m.torn); break;
       default: what = arg(0, 5); same("count", new int[] {what}, x.count(what), m.count(what)); break;

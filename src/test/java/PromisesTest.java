@@ -84,6 +84,13 @@ public final class PromisesTest {
     feedAll(x, "house 1 2 3;x");
     due(3, "end(12)", x.end(12), 13);
     due(4, "text() of what was kept", x.text(), 1);
+    feedAll(x, "windx");
+    x.end(4);
+    due(4, "text() of a name that was cut", x.text(), -14);
+    feedAll(x, "wind 12");
+    x.end(6);
+    due(4, "text() of a number that was cut", x.text(), -16);
+    due(5, "fault()", x.fault(), 2);
   }
 
   private static void texts() {
@@ -1005,6 +1012,30 @@ public final class PromisesTest {
     due(41, "read(1, 1, 0, 1) afloat", x.read(1, 1, 0, 1), -20);
   }
 
+  private static void aFullCoast() {
+    ArkTerrace x = told("house 0 9 0;house 3 9 1;house 3 9 2;house 20 40 3;plain 0 9 1;piano 1 4 2;father 1 9 3;self 2 9 1;"
+        + "plain 2 3 5;plain 3 9 9;piano 3 9 1;self 3 1 9;rise 0 8;");
+    due(6, "rule(0)", x.rule(0), 4);
+    due(6, "rule(1)", x.rule(1), 8);
+    due(7, "house(3, 5)", x.house(3, 5), 224);
+    due(21, "pack(3, 0)", x.pack(3, 0), 224);
+    due(21, "pack(3, 1)", x.pack(3, 1), 38);
+    due(21, "pack(3, 2)", x.pack(3, 2), 29);
+    due(14, "stow(7)", x.stow(7), 38);
+    due(14, "stow(1)", x.stow(1), 1);
+    due(14, "stow(3)", x.stow(3), 3);
+    due(14, "stow(4)", x.stow(4), 0);
+    due(25, "swap(1, 0): 2 with 6", x.swap(1, 0), 26);
+    due(25, "swap(1, 1): 0, 6 and 4 are lost", x.swap(1, 1), 1 + 1 + 5);
+    due(16, "days(1): 0, 2 are out, 4 is the last", x.days(1), 1 + 9 + 5);
+    due(6, "rule(8)", x.rule(8), 21);
+    due(6, "rule(7)", x.rule(7), 138);
+    due(6, "rule(6)", x.rule(6), 7);
+    due(43, "count(4)", x.count(4), 9 + 8 + 7 + 40);
+    due(43, "count(5)", x.count(5), 31);
+    due(34, "rooms(2)", x.rooms(2), MAX);
+  }
+
   private static void counts() {
     ArkTerrace x = told("house 0 9 2;house 20 40 0;plain 0 9 4;self 1 1 9;rise 0 8;");
     due(43, "count(4)", x.count(4), 49);
@@ -1058,6 +1089,7 @@ public final class PromisesTest {
     images();
     sheets();
     reading();
+    aFullCoast();
     counts();
     System.out.println(asked + " answers, " + wrong + " not as due");
     if (wrong != 0) System.exit(1);
