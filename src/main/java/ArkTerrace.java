@@ -42,7 +42,7 @@ public final class ArkTerrace {
             images[k] = new Terrace();
         }
         tape = new Tape();
-        reader = new Reader(tape);
+        reader = new Reader(tape, trial);
         sightings = new Sightings();
         futures = new Futures();
         sheets = new Sheet[SHEETS];
@@ -70,8 +70,8 @@ public final class ArkTerrace {
     }
 
     public int text() {
-        // The trial serves as the draft, so that a text with a fault leaves what stands.
-        int lines = reader.readInto(trial);
+        // The reader's draft is the trial, so that a text with a fault leaves what stands.
+        int lines = reader.readLines();
         tape.length = 0;
         textFault = reader.faultFound;
         if (textFault != NO_FAULT) {
@@ -531,13 +531,13 @@ public final class ArkTerrace {
         Terrace then = copyOfNow();
         int found = NO_FAULT;
         int came = 0;
-        while (came < n && found == NO_FAULT) {
-            found = row.faultAt(lane, f + came);
+        for (int j = 0; j < n && found == NO_FAULT; j++) {
+            found = row.faultAt(lane, f + j);
             if (found == NO_FAULT) {
-                if (then.putIn(row.cells[f + came]) < 0) {
-                    return REFUSED_BASE - came;
+                if (then.putIn(row.cells[f + j]) < 0) {
+                    return REFUSED_BASE - j;
                 }
-                came++;
+                came = j + 1;
             }
         }
         now.copyFrom(then);
@@ -1024,8 +1024,8 @@ public final class ArkTerrace {
         private static final int[] LEVEL_LINE_MOST = {LEVEL_MOST};
 
         private final Tape tape;
+        private final Terrace draft;
         private final int[] numbers = new int[3];
-        private Terrace draft;
         private int at;
         private int token;
         private int tokenFrom;
@@ -1036,12 +1036,12 @@ public final class ArkTerrace {
         int faultFound;
         int faultPlace;
 
-        Reader(Tape tape) {
+        Reader(Tape tape, Terrace draft) {
             this.tape = tape;
+            this.draft = draft;
         }
 
-        int readInto(Terrace draft) {
-            this.draft = draft;
+        int readLines() {
             draft.clear();
             at = 0;
             windTold = false;
