@@ -57,7 +57,7 @@ public final class ArkTerrace {
         if (!within(c, 0, 127)) {
             return BAD;
         }
-        return tape.append(c) ? tape.length : FULL;
+        return tape.addByte(c) ? tape.length : FULL;
     }
 
     public int end(int n) {
@@ -194,7 +194,7 @@ public final class ArkTerrace {
         Terrace then = copyOfNow();
         int highest = then.level;
         for (int d = 0; d < n; d++) {
-            then.passDay();
+            then.passDays(1);
             highest = Math.max(highest, then.level);
         }
         switch (what) {
@@ -223,7 +223,7 @@ public final class ArkTerrace {
             if (then.isGone(i)) {
                 return d;
             }
-            then.passDay();
+            then.passDays(1);
         }
         return NONE;
     }
@@ -237,7 +237,7 @@ public final class ArkTerrace {
             if (then.isAfloat(h) && then.isAfloat(g) && then.place[h] == then.place[g]) {
                 return d;
             }
-            then.passDay();
+            then.passDays(1);
         }
         return NONE;
     }
@@ -396,7 +396,7 @@ public final class ArkTerrace {
         if (!within(n, 0, SEEN_DAYS) || !within(v, 0, SORROW_MOST)) {
             return BAD;
         }
-        return sightings.append(n, v) ? sightings.size : FULL;
+        return sightings.addSighting(n, v) ? sightings.size : FULL;
     }
 
     public int forget(int n) {
@@ -412,42 +412,46 @@ public final class ArkTerrace {
         if (!now.isThing(i)) {
             return BAD;
         }
-        int bits = 0;
+        futures.empty();
         for (int k = 0; k <= KIND_MOST; k++) {
             Terrace then = copyOfNow();
             then.kindOf[i] = k;
-            bits |= isAsSeen(then) ? 1 << k : 0;
+            futures.addRow(then, sightings.latestDay());
         }
-        return bits;
+        return sightings.rowsAsSeen(futures);
     }
 
     public int leaks(int h) {
         if (!now.isHouse(h)) {
             return BAD;
         }
-        int bits = 0;
+        futures.empty();
         for (int v = 0; v <= LEAK_MOST; v++) {
             Terrace then = copyOfNow();
             then.leakOf[h] = v;
-            bits |= isAsSeen(then) ? 1 << v : 0;
+            futures.addRow(then, sightings.latestDay());
         }
-        return bits;
+        return sightings.rowsAsSeen(futures);
     }
 
     public int rooms(int h) {
-        return now.isHouse(h) ? roomsAsSeen(h) : BAD;
+        if (!now.isHouse(h)) {
+            return BAD;
+        }
+        tellRooms(h, sightings.latestDay());
+        return sightings.rowsAsSeen(futures);
     }
 
     public int ask(int h, int what) {
         if (!now.isHouse(h) || !within(what, 0, 1)) {
             return BAD;
         }
-        int open = roomsAsSeen(h);
-        tellFutures(h, open);
+        tellRooms(h, SEEN_DAYS);
+        int open = sightings.rowsAsSeen(futures);
         int fewest = Integer.bitCount(open);
         int best = NONE;
         for (int d = 0; d <= SEEN_DAYS; d++) {
-            int left = futures.leftAtWorst(d);
+            int left = futures.leftAtWorst(open, d);
             if (left < fewest) {
                 fewest = left;
                 best = d;
@@ -470,7 +474,7 @@ public final class ArkTerrace {
         for (int d = 0; d < n; d++) {
             s = s * 1103515245 + 12345;
             int got = (s >>> 16) & 0x7fff;
-            then.passDayOf(got % 9, got / 16 % 9);
+            then.passDay(got % 9, got / 16 % 9);
         }
         return what == 0 ? then.sorrow - now.sorrow : then.afloat;
     }
@@ -610,7 +614,7 @@ public final class ArkTerrace {
     private static boolean losesNoneOf(Terrace then, int h, int n) {
         int toKeep = then.thingsOf(h) & ~then.gone;
         for (int d = 0; d < n; d++) {
-            then.passDay();
+            then.passDays(1);
             // What is lost stays lost, so the days behind it need not be run.
             if ((then.gone & toKeep) != 0) {
                 return false;
@@ -657,7 +661,7 @@ public final class ArkTerrace {
         Terrace then = copyOfNow();
         for (int d = 0; d < n; d++) {
             int more = (storms >> d & 1) * STORM_MORE;
-            then.passDayOf(then.riseToday() + more, then.wind);
+            then.passDay(then.riseToday() + more, then.wind);
         }
         return then;
     }
@@ -682,37 +686,19 @@ public final class ArkTerrace {
         return (what == 0 ? numerator : denominator) / common;
     }
 
-    private boolean isAsSeen(Terrace then) {
-        futures.empty();
-        futures.append(then, sightings.latestDay());
-        return sightings.agreeWith(futures);
-    }
-
-    private int roomsAsSeen(int h) {
-        int bits = 0;
-        for (int r = 0; r < ROOMS_TOLD; r++) {
-            bits |= isAsSeen(copyWithRoom(h, r)) ? 1 << r : 0;
-        }
-        return bits;
-    }
-
-    private void tellFutures(int h, int open) {
+    private void tellRooms(int h, int last) {
         futures.empty();
         for (int r = 0; r < ROOMS_TOLD; r++) {
-            if ((open >> r & 1) != 0) {
-                futures.append(copyWithRoom(h, r), SEEN_DAYS);
-            }
+            Terrace then = copyOfNow();
+            then.room[h] = r;
+            futures.addRow(then, last);
         }
-    }
-
-    private Terrace copyWithRoom(int h, int r) {
-        Terrace then = copyOfNow();
-        then.room[h] = r;
-        return then;
     }
 
     /** All that an image holds: houses, things, rises, wind, level, day, sorrow. */
     private static final class Terrace {
+        private static final int OUT = 0, IN = 1, LOST = 2;
+
         int houses;
         final int[] height = new int[HOUSES_MOST];
         final int[] room = new int[HOUSES_MOST];
@@ -843,9 +829,9 @@ public final class ArkTerrace {
 
         int whereIs(int i) {
             if (isGone(i)) {
-                return 2;
+                return LOST;
             }
-            return isIn(i) ? 1 : 0;
+            return isIn(i) ? IN : OUT;
         }
 
         int fillOf(int i) {
@@ -905,7 +891,7 @@ public final class ArkTerrace {
                 return BAD;
             }
             int h = homeOf[i];
-            if (whereIs(i) != 0 || isAfloat(h)) {
+            if (whereIs(i) != OUT || isAfloat(h)) {
                 return STATE;
             }
             int left = room[h] - filledOf(h) - fillOf(i);
@@ -944,15 +930,11 @@ public final class ArkTerrace {
 
         void passDays(int n) {
             for (int d = 0; d < n; d++) {
-                passDay();
+                passDay(riseToday(), wind);
             }
         }
 
-        void passDay() {
-            passDayOf(riseToday(), wind);
-        }
-
-        void passDayOf(int riseThen, int windThen) {
+        void passDay(int riseThen, int windThen) {
             level = bounded(level + riseThen - CALM, LEVEL_MOST);
             for (int h = 0; h < houses; h++) {
                 passHouse(h, windThen);
@@ -966,7 +948,7 @@ public final class ArkTerrace {
                 return;
             }
             if (!isAfloat(h)) {
-                loseAll(thingsOf(h) & ~stowed & ~gone);
+                loseWhatIsOut(h);
                 afloat |= 1 << h;
             }
             room[h] = Math.max(0, room[h] - leakOf[h]);
@@ -974,20 +956,28 @@ public final class ArkTerrace {
             place[h] = bounded(place[h] + windThen - CALM, PLACE_MOST);
         }
 
-        private void loseWhatIsOver(int h) {
-            int filled = filledOf(h);
-            for (int i = things - 1; i >= 0 && filled > room[h]; i--) {
-                if (isIn(i) && homeOf[i] == h) {
-                    filled -= fillOf(i);
-                    loseAll(1 << i);
+        private void loseWhatIsOut(int h) {
+            for (int i = 0; i < things; i++) {
+                if (homeOf[i] == h && whereIs(i) == OUT) {
+                    loseThing(i);
                 }
             }
         }
 
-        private void loseAll(int set) {
-            stowed &= ~set;
-            gone |= set;
-            sorrow = Math.min(SORROW_MOST, sorrow + costOfSet(set));
+        private void loseWhatIsOver(int h) {
+            int filled = filledOf(h);
+            for (int i = things - 1; i >= 0 && filled > room[h]; i--) {
+                if (homeOf[i] == h && isIn(i)) {
+                    filled -= fillOf(i);
+                    loseThing(i);
+                }
+            }
+        }
+
+        private void loseThing(int i) {
+            stowed &= ~(1 << i);
+            gone |= 1 << i;
+            sorrow = Math.min(SORROW_MOST, sorrow + costOf(i));
         }
     }
 
@@ -998,7 +988,7 @@ public final class ArkTerrace {
         final byte[] bytes = new byte[BYTES_MOST];
         int length;
 
-        boolean append(int c) {
+        boolean addByte(int c) {
             if (length >= BYTES_MOST) {
                 return false;
             }
@@ -1237,7 +1227,7 @@ public final class ArkTerrace {
         final int[] sorrows = new int[SEEN_MOST];
         int size;
 
-        boolean append(int n, int v) {
+        boolean addSighting(int n, int v) {
             if (size >= SEEN_MOST) {
                 return false;
             }
@@ -1255,9 +1245,17 @@ public final class ArkTerrace {
             return latest;
         }
 
-        boolean agreeWith(Futures futures) {
+        int rowsAsSeen(Futures futures) {
+            int bits = 0;
+            for (int row = 0; row < futures.rows; row++) {
+                bits |= agreeWith(futures, row) ? 1 << row : 0;
+            }
+            return bits;
+        }
+
+        private boolean agreeWith(Futures futures, int row) {
             for (int k = 0; k < size; k++) {
-                if (futures.sorrowOf(0, behind[k]) != sorrows[k]) {
+                if (futures.sorrowOf(row, behind[k]) != sorrows[k]) {
                     return false;
                 }
             }
@@ -1270,20 +1268,20 @@ public final class ArkTerrace {
         private static final int WIDTH = SEEN_DAYS + 1;
 
         private final int[] sorrows = new int[ROOMS_TOLD * WIDTH];
-        private int rows;
+        int rows;
 
         void empty() {
             rows = 0;
         }
 
         // Only the days up to the last are run; those behind it are not asked of.
-        void append(Terrace then, int last) {
+        void addRow(Terrace then, int last) {
             if (rows >= ROOMS_TOLD) {
                 return;
             }
             for (int d = 0; d <= last && d < WIDTH; d++) {
                 sorrows[rows * WIDTH + d] = then.sorrow;
-                then.passDay();
+                then.passDay(then.riseToday(), then.wind);
             }
             rows++;
         }
@@ -1292,19 +1290,20 @@ public final class ArkTerrace {
             return sorrows[row * WIDTH + d];
         }
 
-        int leftAtWorst(int d) {
+        int leftAtWorst(int open, int d) {
             int worst = 0;
             for (int row = 0; row < rows; row++) {
-                worst = Math.max(worst, alikeFrom(row, d));
+                worst = Math.max(worst, alikeFrom(row, open, d));
             }
             return worst;
         }
 
         // The first row of those alike counts them all, so those ahead need no look.
-        private int alikeFrom(int row, int d) {
+        private int alikeFrom(int row, int open, int d) {
             int alike = 0;
             for (int other = row; other < rows; other++) {
-                alike += sorrowOf(other, d) == sorrowOf(row, d) ? 1 : 0;
+                boolean counts = (open >> other & 1) != 0 && sorrowOf(other, d) == sorrowOf(row, d);
+                alike += counts ? 1 : 0;
             }
             return alike;
         }

@@ -4,11 +4,14 @@ import java.lang.reflect.Method;
 import java.lang.reflect.Modifier;
 import java.nio.file.Files;
 import java.nio.file.Path;
+import java.util.ArrayList;
 import java.util.Arrays;
 import java.util.HashSet;
 import java.util.List;
+import java.util.Map;
 import java.util.Random;
 import java.util.Set;
+import java.util.TreeMap;
 import java.util.TreeSet;
 import java.util.regex.Matcher;
 import java.util.regex.Pattern;
@@ -18,6 +21,7 @@ public final class FaceTest {
   private static final String FACE = "feed 1 end 1 text 0 fault 0 rule 1 house 2 thing 2 rise 1 build 3 alter 3 tide 2 "
       + "blow 1 stow 1 fetch 1 days 1 runs 2 ahead 3 lost 1 meet 2 pack 2 need 2 high 2 leak 2 swap 2 save 2 kind 3 "
       + "luck 4 mean 3 see 2 forget 1 kinds 1 leaks 1 rooms 1 ask 2 drift 3 keep 1 back 1 sheet 3 lay 3 read 4 torn 0 count 1";
+  private static final Set<String> KEYWORDS = Set.of("if", "for", "while", "switch", "return");
   private static int wrong = 0;
 
   private static void holds(String what, boolean so) {
@@ -93,6 +97,43 @@ public final class FaceTest {
     }
   }
 
+  /** The bodies of the methods by their names; two of one name (in two classes) are taken as one. */
+  private static Map<String, String> bodies(String code) {
+    Map<String, String> bodies = new TreeMap<>();
+    Matcher method = Pattern.compile("(?ms)^( {4}| {8})(?:private |public |static |final )*[\\w\\[\\]]+ (\\w+)\\([^()]*\\) \\{\n(.*?)^\\1\\}")
+        .matcher(code);
+    while (method.find()) bodies.merge(method.group(2), method.group(3), String::concat);
+    return bodies;
+  }
+
+  /** How many calls stand open at once at the most, the library's own counted, this one too. */
+  private static int depth(String name, Map<String, String> bodies, List<String> open) {
+    if (open.contains(name)) {
+      holds("no recursion: " + open + " " + name, false);
+      return 0;
+    }
+    List<String> way = new ArrayList<>(open);
+    way.add(name);
+    int most = 0;
+    Matcher call = Pattern.compile("\\b(\\w+)\\(").matcher(bodies.getOrDefault(name, ""));
+    while (call.find())
+      if (!KEYWORDS.contains(call.group(1))) most = Math.max(most, depth(call.group(1), bodies, way));
+    holds("calls go at most eight deep: " + way, way.size() <= 8);
+    return most + 1;
+  }
+
+  private static void callsInCalls() throws Exception {
+    String source = Files.readString(Path.of("src/main/java/ArkTerrace.java"));
+    Map<String, String> bodies = bodies(source.replaceAll("//[^\n]*", ""));
+    String[] face = FACE.split(" ");
+    int deepest = 0;
+    for (int k = 0; k < face.length; k += 2) {
+      holds("a body of " + face[k], bodies.containsKey(face[k]));
+      deepest = Math.max(deepest, depth(face[k], bodies, List.of()));
+    }
+    holds("the chain from ask() to what a thing costs is seen: " + deepest, deepest >= 5);
+  }
+
   private static int wild(Random random) {
     switch (random.nextInt(5)) {
       case 0: return random.nextInt();
@@ -129,6 +170,7 @@ public final class FaceTest {
   public static void main(String[] args) throws Exception {
     face();
     source();
+    callsInCalls();
     anyNumbers();
     System.out.println(wrong == 0 ? "the face and the rules hold" : wrong + " do not hold");
     if (wrong != 0) System.exit(1);
