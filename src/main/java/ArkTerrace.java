@@ -26,7 +26,6 @@ public final class ArkTerrace {
     private final Terrace trial;
     private final Terrace[] images;
     private int imagesKept;
-    private final Tape tape;
     private final Reader reader;
     private int textFault;
     private final Sightings sightings;
@@ -41,8 +40,7 @@ public final class ArkTerrace {
         for (int k = 0; k < IMAGES; k++) {
             images[k] = new Terrace();
         }
-        tape = new Tape();
-        reader = new Reader(tape, trial);
+        reader = new Reader();
         sightings = new Sightings();
         futures = new Futures();
         sheets = new Sheet[SHEETS];
@@ -57,27 +55,27 @@ public final class ArkTerrace {
         if (!within(c, 0, 127)) {
             return BAD;
         }
-        return tape.addByte(c) ? tape.length : FULL;
+        return reader.tape.addByte(c) ? reader.tape.length : FULL;
     }
 
     public int end(int n) {
-        if (!within(n, 0, tape.length)) {
+        int had = reader.tape.length;
+        if (!within(n, 0, had)) {
             return BAD;
         }
-        int had = tape.length;
-        tape.length = n;
+        reader.tape.length = n;
         return had;
     }
 
     public int text() {
-        // The reader's draft is the trial, so that a text with a fault leaves what stands.
+        // The reader tells it to a draft, so that a text with a fault leaves what stands.
         int lines = reader.readLines();
-        tape.length = 0;
+        reader.tape.length = 0;
         textFault = reader.faultFound;
         if (textFault != NO_FAULT) {
             return FAULT_BASE - reader.faultPlace;
         }
-        now.copyFrom(trial);
+        now.copyFrom(reader.draft);
         sightings.size = 0;
         imagesKept = 0;
         return lines;
@@ -557,7 +555,7 @@ public final class ArkTerrace {
         switch (what) {
             case 0: return sightings.size;
             case 1: return Integer.bitCount(imagesKept);
-            case 2: return tape.length;
+            case 2: return reader.tape.length;
             case 3: return sheets[0].made ? sheets[0].size : NONE;
             case 4: return sumOf(now.room, now.houses);
             case 5: return sumOf(now.worthOf, now.things);
@@ -998,7 +996,7 @@ public final class ArkTerrace {
         }
     }
 
-    /** Reads a tape by tokens into a draft, as far as the first fault. */
+    /** Reads its tape by tokens into its draft, as far as the first fault. */
     private static final class Reader {
         private static final int THE_END = 0, NAME = 1, NUMBER = 2, SIGN = 3;
         private static final int FIGURES_MOST = 2;
@@ -1013,8 +1011,8 @@ public final class ArkTerrace {
         private static final int[] WIND_LINE_MOST = {WIND_MOST};
         private static final int[] LEVEL_LINE_MOST = {LEVEL_MOST};
 
-        private final Tape tape;
-        private final Terrace draft;
+        final Tape tape = new Tape();
+        final Terrace draft = new Terrace();
         private final int[] numbers = new int[3];
         private int at;
         private int token;
@@ -1025,11 +1023,6 @@ public final class ArkTerrace {
         private int daysTold;
         int faultFound;
         int faultPlace;
-
-        Reader(Tape tape, Terrace draft) {
-            this.tape = tape;
-            this.draft = draft;
-        }
 
         int readLines() {
             draft.clear();

@@ -21,6 +21,9 @@ public final class FaceTest {
   private static final String FACE = "feed 1 end 1 text 0 fault 0 rule 1 house 2 thing 2 rise 1 build 3 alter 3 tide 2 "
       + "blow 1 stow 1 fetch 1 days 1 runs 2 ahead 3 lost 1 meet 2 pack 2 need 2 high 2 leak 2 swap 2 save 2 kind 3 "
       + "luck 4 mean 3 see 2 forget 1 kinds 1 leaks 1 rooms 1 ask 2 drift 3 keep 1 back 1 sheet 3 lay 3 read 4 torn 0 count 1";
+  /** What LANGUAGE.md, rule 4, leaves of the library, as far as the class uses it. */
+  private static final Set<String> LIBRARY = Set.of("Arrays.fill", "System.arraycopy", "Math.max", "Math.min",
+      "Math.floorMod", "Integer.bitCount");
   private static final Set<String> KEYWORDS = Set.of("if", "for", "while", "switch", "return");
   private static int wrong = 0;
 
@@ -88,6 +91,11 @@ public final class FaceTest {
     holds("no lambda, no method reference", !code.contains("->") && !code.contains("::"));
     Matcher imports = Pattern.compile("(?m)^import (.*);").matcher(code);
     while (imports.find()) holds("import " + imports.group(1), imports.group(1).equals("java.util.Arrays"));
+    Matcher library = Pattern.compile("\\b([A-Z][a-z]+\\.[a-z]\\w*)\\(").matcher(code);
+    while (library.find()) holds("the library: " + library.group(1), LIBRARY.contains(library.group(1)));
+    holds("arrays of one dimension", !code.contains("[][]"));
+    holds("nothing of an object is handed out as it is made",
+        !Pattern.compile("new [A-Z]\\w*\\([^)]|\\bthis\\b").matcher(code).find());
     holds("plain signs alone", source.chars().allMatch(c -> c == '\n' || c >= 32 && c < 127));
     int from = 0;
     String[] lines = source.split("\n");
